@@ -4,23 +4,32 @@ final class Check {
         long answer();
     }
 
+    private static final int MOST_LINES = 200;
+
     private int right = 0;
     private int wrong = 0;
 
     void due(String call, long want, long got) {
-        judge(call, String.valueOf(want), String.valueOf(got));
+        text(call, String.valueOf(want), String.valueOf(got));
     }
 
     void isTrue(String what, boolean holds) {
-        judge(what, "true", String.valueOf(holds));
+        text(what, "true", String.valueOf(holds));
     }
 
     void refuses(String call, Class<? extends RuntimeException> kind, Call tried) {
-        judge(call, "throws." + kind.getSimpleName(), outcome(tried));
+        text(call, "throws." + kind.getSimpleName(), outcome(tried));
     }
 
-    void same(String call, Call want, Call tried) {
-        judge(call, outcome(want), outcome(tried));
+    void text(String call, String want, String got) {
+        if (want.equals(got)) {
+            right++;
+        } else {
+            wrong++;
+            if (wrong <= MOST_LINES) {
+                System.out.println(call + " answered " + got + ", due is " + want);
+            }
+        }
     }
 
     void end() {
@@ -35,15 +44,6 @@ final class Check {
             return String.valueOf(tried.answer());
         } catch (RuntimeException e) {
             return "throws." + e.getClass().getSimpleName();
-        }
-    }
-
-    private void judge(String call, String want, String got) {
-        if (want.equals(got)) {
-            right++;
-        } else {
-            wrong++;
-            System.out.println(call + " answered " + got + ", due is " + want);
         }
     }
 }

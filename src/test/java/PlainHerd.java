@@ -1,4 +1,5 @@
 import java.util.ArrayList;
+import java.util.Arrays;
 import java.util.HashMap;
 import java.util.List;
 import java.util.Map;
@@ -21,10 +22,14 @@ final class PlainHerd {
     }
 
     private final List<Animal> book = new ArrayList<>();
-    private final Map<Integer, Long> known = new HashMap<>();
+    private final long[] known = new long[24 * 24];
     private Map<Integer, Integer> list = null;
     private Map<Integer, Integer> bestList;
     private long bestSum;
+
+    PlainHerd() {
+        forgetKinships();
+    }
 
     int enter(int sire, int dam, int sex, int year) {
         if (sex < 0 || sex > 1 || year < 0 || year > 60) {
@@ -58,7 +63,7 @@ final class PlainHerd {
         List<Long> before = allInbreeding();
         x.sire = sire;
         x.dam = dam;
-        known.clear();
+        forgetKinships();
         List<Long> after = allInbreeding();
         int changed = 0;
         for (int i = 0; i < before.size(); i++) {
@@ -82,11 +87,15 @@ final class PlainHerd {
 
     int of(int a, int what) {
         Animal x = find(a);
-        int[] all = {x.sire, x.dam, x.sex, x.year, x.lives ? 1 : 0, depth(a)};
-        if (what < 0 || what >= all.length) {
-            throw new IndexOutOfBoundsException();
+        switch (what) {
+            case 0: return x.sire;
+            case 1: return x.dam;
+            case 2: return x.sex;
+            case 3: return x.year;
+            case 4: return x.lives ? 1 : 0;
+            case 5: return depth(a);
+            default: throw new IndexOutOfBoundsException();
         }
-        return all[what];
     }
 
     int animals() {
@@ -167,11 +176,15 @@ final class PlainHerd {
     int nearest(int a, int b) {
         find(a);
         find(b);
+        int common = 0;
+        for (int i = 0; i < book.size(); i++) {
+            common |= isCommon(i, a, b) ? 1 << i : 0;
+        }
         int set = 0;
         for (int i = 0; i < book.size(); i++) {
-            boolean near = isCommon(i, a, b);
-            for (int j = 0; j < book.size(); j++) {
-                near &= !(isAncestor(i, j) && isCommon(j, a, b));
+            boolean near = (common & 1 << i) != 0;
+            for (int j = 0; j < book.size() && near; j++) {
+                near = (common & 1 << j) == 0 || !isAncestor(i, j);
             }
             set |= near ? 1 << i : 0;
         }
@@ -320,11 +333,15 @@ final class PlainHerd {
         if (a == NONE || b == NONE) {
             return 0;
         }
-        int key = 100 * Math.max(a, b) + Math.min(a, b);
-        if (!known.containsKey(key)) {
-            known.put(key, kinByWords(Math.max(a, b), Math.min(a, b)));
+        int pair = 24 * Math.max(a, b) + Math.min(a, b);
+        if (known[pair] == NONE) {
+            known[pair] = kinByWords(Math.max(a, b), Math.min(a, b));
         }
-        return known.get(key);
+        return known[pair];
+    }
+
+    private void forgetKinships() {
+        Arrays.fill(known, NONE);
     }
 
     private long kinByWords(int greater, int other) {
@@ -357,6 +374,9 @@ final class PlainHerd {
     }
 
     private boolean isAncestor(int a, int of) {
+        if (of <= a) {
+            return false;
+        }
         int sire = book.get(of).sire;
         int dam = book.get(of).dam;
         return (sire != NONE && (sire == a || isAncestor(a, sire))) || (dam != NONE && (dam == a || isAncestor(a, dam)));
