@@ -85,7 +85,9 @@ public final class MatingTest {
         check.due("above the most", NONE, x.plan(1 << 5, 1, ONE / 4 - 1));
         check.due("none above 0", 0, x.plan(1 << 1, 1, 0));
         check.due("only one of two can have him", NONE, x.plan(1 << 1 | 1 << 3, 1, ONE / 4 - 1));
-        check.due("the sum may be above the most", ONE / 2, x.plan(1 << 3 | 1 << 5, 2, ONE / 4));
+        HerdKinship y = Books.founders(1, 0).enter(0, NONE, 1, 1).enter(0, NONE, 1, 1).program();
+        check.due("the sum may be above the most", ONE / 2, y.plan(0b110, 2, ONE / 4));
+        check.due("each of them above the most", NONE, y.plan(0b110, 2, ONE / 4 - 1));
     }
 
     private void planOfNoCows() {

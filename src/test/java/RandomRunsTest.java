@@ -3,10 +3,6 @@ public final class RandomRunsTest {
     private static final int RUNS = 1000;
     // What an object answers after so many calls is free.
     private static final int CALLS = 512;
-    private static final String[] OF_ONE = {
-        "inbreeding", "unknown", "inHerd", "ancestors", "descendants", "closest", "bestBull", "bull",
-    };
-    private static final String[] OF_TWO = {"kinship", "calf", "share", "lines", "nearest"};
 
     private final Check check;
     private final HerdKinship herd = new HerdKinship();
@@ -29,10 +25,13 @@ public final class RandomRunsTest {
 
     public static void main(String[] args) {
         Check check = new Check();
-        for (int run = 0; run < RUNS; run++) {
-            RandomRunsTest test = new RandomRunsTest(check, run);
-            while (test.calls < CALLS) {
-                test.step();
+        for (int run = 0; run < RUNS; run += 2) {
+            RandomRunsTest one = new RandomRunsTest(check, run);
+            RandomRunsTest other = new RandomRunsTest(check, run + 1);
+            // In turn: what is done to one object must not be seen in the other.
+            while (one.calls < CALLS || other.calls < CALLS) {
+                one.step();
+                other.step();
             }
         }
         check.end();
@@ -128,9 +127,9 @@ public final class RandomRunsTest {
     private void ask() {
         int kind = chance(10);
         if (kind < 3) {
-            call(OF_ONE[chance(OF_ONE.length)], animal());
+            call(Whole.OF_ONE[chance(Whole.OF_ONE.length)], animal());
         } else if (kind < 6) {
-            call(OF_TWO[chance(OF_TWO.length)], animal(), animal());
+            call(Whole.OF_TWO[chance(Whole.OF_TWO.length)], animal(), animal());
         } else if (kind < 8) {
             call("of", animal(), chance(6) + (wild ? chance(3) - 1 : 0));
         } else {

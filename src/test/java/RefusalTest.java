@@ -15,7 +15,7 @@ public final class RefusalTest {
     private static final Class<IllegalStateException> STATE = IllegalStateException.class;
     private static final Class<IndexOutOfBoundsException> OUTSIDE = IndexOutOfBoundsException.class;
 
-    // Neither is an animal of a book of 13 or of one of 24; 32 and 64 would wrap round in a shift.
+    // Numbers that are no animal of a book of 13, and of one of 24; 32 and 64 would wrap round in a shift.
     private static final int[] STRANGERS_OF_13 = {LEAST, LEAST + 1, -14, -2, 13, 14, 23, 24, 32, 64, GREATEST - 1, GREATEST};
     private static final int[] STRANGERS_OF_24 = {LEAST, LEAST + 1, -24, -2, 24, 25, 31, 32, 64, GREATEST - 1, GREATEST};
 
@@ -23,6 +23,7 @@ public final class RefusalTest {
     private final Whole whole = new Whole(check);
     private final Script family = Books.family();
     private final Script full = Books.full();
+    private final Script founders = Books.founders(12, 12);
 
     public static void main(String[] args) {
         RefusalTest test = new RefusalTest();
@@ -58,6 +59,13 @@ public final class RefusalTest {
     private void accepted(long due, Script book, String name, long... arguments) {
         NamedCall call = new NamedCall(name, arguments);
         check.text(call.toString(), String.valueOf(due), call.answerOf(book.program()));
+    }
+
+    private void answered(Script book, String name, long... arguments) {
+        NamedCall call = new NamedCall(name, arguments);
+        String answer = call.answerOf(book.program());
+        check.text(call.toString(), call.answerOf(book.plain()), answer);
+        check.isTrue(call + " is answered", !answer.startsWith("throws."));
     }
 
     /** "a SEX, 0 male or 1 female, a YEAR, 0 .. 60" */
@@ -127,12 +135,12 @@ public final class RefusalTest {
         refused(STATE, full, "enter", NONE, NONE, 1, 60);
         refused(STATE, full, "enter", 0, 1, 1, 1);
         refused(STATE, full, "enter", 0, 23, 1, 13);
-        Script founders = Books.founders(12, 12);
         refused(STATE, founders, "enter", 11, 23, 0, 1);
+        Script culled = founders;
         for (int a = 0; a < 24; a++) {
-            founders = founders.cull(a);
+            culled = culled.cull(a);
         }
-        refused(STATE, founders, "enter", NONE, NONE, 0, 0);
+        refused(STATE, culled, "enter", NONE, NONE, 0, 0);
         accepted(23, Books.founders(12, 11), "enter", 11, 22, 0, 1);
         accepted(22, Books.founders(12, 10), "enter", NONE, NONE, 0, 0);
     }
@@ -189,6 +197,10 @@ public final class RefusalTest {
         refused(UNFIT, family, "correct", 10, NONE, 0);
         refused(UNFIT, family, "correct", 10, 6, 9);
         refused(UNFIT, family, "correct", 10, 7, 6);
+        refused(UNFIT, family, "correct", 10, 0, 9);
+        refused(UNFIT, family, "correct", 10, 7, 1);
+        refused(UNFIT, family, "correct", 9, 4, 8);
+        refused(UNFIT, family, "correct", 5, 4, 1);
         refused(UNFIT, family, "correct", 5, 4, NONE);
         refused(UNFIT, family, "correct", 5, 4, 3);
         refused(UNFIT, family, "correct", 2, 0, 3);
@@ -283,8 +295,7 @@ public final class RefusalTest {
     }
 
     private void questionsOfOne() {
-        String[] names = {"inbreeding", "unknown", "inHerd", "ancestors", "descendants", "closest", "bestBull", "bull"};
-        for (String name : names) {
+        for (String name : Whole.OF_ONE) {
             for (int stranger : STRANGERS_OF_13) {
                 refused(NOBODY, family, name, stranger);
             }
@@ -296,11 +307,16 @@ public final class RefusalTest {
             refused(NOBODY, Script.empty(), name, 0);
             refused(NOBODY, Script.empty(), name, NONE);
             refused(NOBODY, Books.oneBull(), name, 1);
+            answered(family, name, 0);
+            answered(family, name, 12);
+            answered(founders, name, 0);
+            answered(founders, name, 23);
+            answered(Books.oneBull(), name, 0);
         }
     }
 
     private void questionsOfTwo() {
-        for (String name : new String[] {"kinship", "calf", "share", "lines", "nearest"}) {
+        for (String name : Whole.OF_TWO) {
             for (int stranger : STRANGERS_OF_13) {
                 refused(NOBODY, family, name, stranger, 0);
                 refused(NOBODY, family, name, 0, stranger);
@@ -316,6 +332,11 @@ public final class RefusalTest {
             refused(NOBODY, Script.empty(), name, 0, 0);
             refused(NOBODY, Books.oneBull(), name, 0, 1);
             refused(NOBODY, Books.oneBull(), name, 1, 0);
+            answered(family, name, 0, 12);
+            answered(family, name, 12, 0);
+            answered(founders, name, 0, 23);
+            answered(founders, name, 23, 0);
+            answered(Books.oneBull(), name, 0, 0);
         }
     }
 
@@ -356,10 +377,10 @@ public final class RefusalTest {
     private void planMoreThanFiveCows() {
         refused(BAD, family, "plan", Books.set(1, 7, 8, 10, 11, 12), 8, ANY);
         refused(BAD, full, "plan", Books.set(1, 7, 11, 12, 20, 23), 8, ANY);
-        refused(BAD, Books.founders(12, 12), "plan", 0xfff000, 8, ANY);
+        refused(BAD, founders, "plan", 0xfff000, 8, ANY);
         accepted(3 * PlainHerd.ONE / 32, family, "plan", Books.set(7, 8, 10, 11, 12), 2, ANY);
-        accepted(0, Books.founders(12, 12), "plan", Books.set(12, 13, 14, 22, 23), 1, ANY);
-        accepted(0, Books.founders(12, 12), "plan", Books.set(19, 20, 21, 22, 23), 8, 0);
+        accepted(0, founders, "plan", Books.set(12, 13, 14, 22, 23), 1, ANY);
+        accepted(0, founders, "plan", Books.set(19, 20, 21, 22, 23), 8, 0);
     }
 
     /** "a most below 0" */

@@ -45,6 +45,11 @@ final class Script {
         return animals;
     }
 
+    /** How many of its 512 calls an object has been used for when the book is made. */
+    int length() {
+        return calls.size();
+    }
+
     HerdKinship program() {
         HerdKinship book = new HerdKinship();
         makeIn(book);

@@ -21,6 +21,7 @@ public final class SizesTest {
         test.oneThatIsCulled();
         test.twentyFourFounders();
         test.listsOfTwentyFour();
+        test.listsOfTheFirstAndTheLast();
         test.oneSireOfTwentyThree();
         test.oneDamOfTwentyThree();
         test.twentyFourGenerations();
@@ -52,13 +53,15 @@ public final class SizesTest {
     private void noAnimalsRefuse() {
         HerdKinship x = new HerdKinship();
         for (int a = -1; a <= 1; a++) {
-            String[] ofOne = {"cull", "inbreeding", "unknown", "inHerd", "ancestors", "descendants", "closest", "bestBull", "bull"};
-            for (String name : ofOne) {
+            int one = a;
+            for (String name : Whole.OF_ONE) {
                 check.text(name + " of none", "throws.NoSuchElementException", new NamedCall(name, a).answerOf(x));
             }
-            for (String name : new String[] {"of", "kinship", "calf", "share", "lines", "nearest"}) {
+            for (String name : Whole.OF_TWO) {
                 check.text(name + " of none", "throws.NoSuchElementException", new NamedCall(name, a, 0).answerOf(x));
             }
+            check.refuses("of of none", NOBODY, () -> x.of(one, 0));
+            check.refuses("cull of none", NOBODY, () -> x.cull(one));
         }
         check.refuses("correct of none", NOBODY, () -> x.correct(0, NONE, NONE));
         check.refuses("plan of none", NOBODY, () -> x.plan(1, 1, ANY));
@@ -177,6 +180,26 @@ public final class SizesTest {
         check.due("bull of the last cow", 23, z.bull(22));
         check.due("bestBull", 23, z.bestBull(0));
         check.due("bestBull of himself", 23, z.bestBull(23));
+    }
+
+    /** The first animal is a cow, the last her son; or the first a bull, the last his daughter. */
+    private void listsOfTheFirstAndTheLast() {
+        HerdKinship x = Books.founders(0, 23).enter(NONE, 0, 0, 1).program();
+        check.due("plan of 0 and 22", ONE / 4, x.plan(1 << 0 | 1 << 22, 2, ANY));
+        check.due("planned", ONE / 4, x.planned());
+        check.due("bull of 0", 23, x.bull(0));
+        check.due("bull of 22", 23, x.bull(22));
+        check.due("closest of 0", 23, x.closest(0));
+        check.due("closest of 23", 0, x.closest(23));
+        check.due("above the most", NONE, x.plan(1, 1, ONE / 4 - 1));
+        HerdKinship y = Books.founders(1, 22).enter(0, NONE, 1, 1).program();
+        check.due("plan of 1 and 23", ONE / 4, y.plan(1 << 1 | 1 << 23, 2, ANY));
+        check.due("planned", ONE / 4, y.planned());
+        check.due("bull of 1", 0, y.bull(1));
+        check.due("bull of 23", 0, y.bull(23));
+        check.due("closest of 0", 23, y.closest(0));
+        check.due("closest of 23", 0, y.closest(23));
+        check.due("above the most", NONE, y.plan(1 << 23, 1, ONE / 4 - 1));
     }
 
     private void oneSireOfTwentyThree() {

@@ -49,16 +49,15 @@ public final class SweepTest {
 
     private void questions(Script book) {
         List<NamedCall> calls = new ArrayList<>();
-        String[] ofOne = {"inbreeding", "unknown", "inHerd", "ancestors", "descendants", "closest", "bestBull", "bull"};
         for (int a : numbers(book.animals(), 1)) {
-            for (String name : ofOne) {
+            for (String name : Whole.OF_ONE) {
                 calls.add(new NamedCall(name, a));
             }
             for (int what : WHATS) {
                 calls.add(new NamedCall("of", a, what));
             }
             for (int b : numbers(book.animals(), 1)) {
-                for (String name : new String[] {"kinship", "calf", "share", "lines", "nearest"}) {
+                for (String name : Whole.OF_TWO) {
                     calls.add(new NamedCall(name, a, b));
                 }
             }

@@ -3,6 +3,12 @@ import java.util.List;
 
 /** Asks a whole book: every question of the face about every animal and every pair. */
 final class Whole {
+    static final String[] OF_THE_HERD = {"animals", "herd", "planned"};
+    static final String[] OF_ONE = {
+        "inbreeding", "unknown", "inHerd", "ancestors", "descendants", "closest", "bestBull", "bull",
+    };
+    static final String[] OF_TWO = {"kinship", "calf", "share", "lines", "nearest"};
+
     // An object is used for 512 calls: a portion may be asked twice of a book of 24 with room to spare.
     private static final int PORTION = 200;
 
@@ -63,7 +69,7 @@ final class Whole {
     }
 
     private static void askTheHerd(List<NamedCall> all) {
-        for (String name : new String[] {"animals", "herd", "planned"}) {
+        for (String name : OF_THE_HERD) {
             all.add(new NamedCall(name));
         }
     }
@@ -72,14 +78,13 @@ final class Whole {
         for (int what = 0; what <= 5; what++) {
             all.add(new NamedCall("of", a, what));
         }
-        String[] names = {"inbreeding", "unknown", "inHerd", "ancestors", "descendants", "closest", "bestBull", "bull"};
-        for (String name : names) {
+        for (String name : OF_ONE) {
             all.add(new NamedCall(name, a));
         }
     }
 
     private static void askTwo(List<NamedCall> all, int a, int b) {
-        for (String name : new String[] {"kinship", "calf", "share", "lines", "nearest"}) {
+        for (String name : OF_TWO) {
             all.add(new NamedCall(name, a, b));
         }
     }
